@@ -39,7 +39,7 @@ public final class HalfDays {
     private static final int GREATEST_SPAN = 400;
     private static final int LOOKED_BACK = 84;
     private static final long GREATEST_SUM = 1000000000L;
-    private static final long BROKEN = Long.MIN_VALUE;
+    private static final long BROKEN = 1L << 62;
 
     private static final int HERE = 0;
     private static final int LATE = 1;
@@ -760,7 +760,7 @@ public final class HalfDays {
     private static final class People {
         int children;
         final int[] born = new int[CHILDREN];
-        final boolean[] carer = new boolean[CHILDREN];
+        final int[] carer = new int[CHILDREN];
         final int[] route = new int[CHILDREN];
         final int[] x = new int[CHILDREN];
         final int[] y = new int[CHILDREN];
@@ -784,7 +784,7 @@ public final class HalfDays {
 
         int addChild(int years, boolean isCarer, int itsRoute, int itsX, int itsY) {
             born[children] = years;
-            carer[children] = isCarer;
+            carer[children] = isCarer ? 1 : 0;
             route[children] = itsRoute;
             x[children] = itsX;
             y[children] = itsY;
@@ -835,7 +835,7 @@ public final class HalfDays {
         void becomeLike(People other) {
             children = other.children;
             copyRow(other.born, born);
-            System.arraycopy(other.carer, 0, carer, 0, CHILDREN);
+            copyRow(other.carer, carer);
             copyRow(other.route, route);
             copyRow(other.x, x);
             copyRow(other.y, y);
@@ -1209,51 +1209,34 @@ public final class HalfDays {
         /** The tape's text, or null behind a fault; the tape is empty then. */
         Text readText() {
             fault = NONE;
-            clauses = 0;
             codeLength = 0;
             leaves = 0;
             tokenEnd = 0;
             nextToken();
-            readClause();
-            for (int i = 0; i < TAPE && fault == NONE && tokenKind != TOKEN_END; i++) {
-                if (isSign(';')) {
-                    nextToken();
-                    readClause();
-                } else {
-                    refuseToken();
-                }
-            }
-            length = 0;
-            return fault == NONE ? new Text(this) : null;
-        }
-
-        private void readClause() {
-            if (clauses >= CLAUSES) {
-                refuseToken();
-                return;
-            }
-            at[2 * clauses] = codeLength;
-            if (word == WORD_STRIKE) {
-                readStrike();
-                at[2 * clauses + 1] = codeLength;
-            } else {
+            boolean more = true;
+            for (int c = 0; c < CLAUSES && more; c++) {
+                clauses = c;
+                at[2 * c] = codeLength;
                 readHead();
-                at[2 * clauses + 1] = codeLength;
-                if (fault == NONE && word == WORD_IF) {
+                at[2 * c + 1] = codeLength;
+                if (fault == NONE && word == WORD_IF && key[c] != STRIKE) {
                     nextToken();
                     readTest(0);
                 }
+                at[2 * c + 2] = codeLength;
+                clauses = c + 1;
+                more = fault == NONE && isSign(';');
+                if (more) {
+                    nextToken();
+                } else if (tokenKind != TOKEN_END) {
+                    refuseToken();
+                }
             }
-            at[2 * clauses + 2] = codeLength;
-            clauses++;
-        }
-
-        private void readStrike() {
-            nextToken();
-            int text = takeNumber(0, ACTS - 1);
-            takeWord(WORD_CLAUSE);
-            int clause = takeNumber(0, CLAUSES - 1);
-            putHead(STRIKE, text * CLAUSES + clause);
+            if (more) {
+                refuseToken();
+            }
+            length = 0;
+            return fault == NONE ? new Text(this) : null;
         }
 
         private void readHead() {
@@ -1272,6 +1255,11 @@ public final class HalfDays {
             } else if (word == WORD_OFF) {
                 nextToken();
                 putHead(OFF, 0);
+            } else if (word == WORD_STRIKE) {
+                nextToken();
+                int text = takeNumber(0, ACTS - 1);
+                takeWord(WORD_CLAUSE);
+                putHead(STRIKE, text * CLAUSES + takeNumber(0, CLAUSES - 1));
             } else {
                 refuseToken();
             }
@@ -1323,37 +1311,28 @@ public final class HalfDays {
                 turned = !turned;
                 nextToken();
             }
-            if (isSign('(')) {
-                if (depth >= BRACKETS) {
+            int testWord = wordAmong(TEST_WORDS);
+            if (testWord != NONE) {
+                readLeaf(OP_WORD, FIRST_TEST_WORD + testWord);
+            } else if (!isSign('(')) {
+                readSum(depth);
+                int compares = isSign('<') ? OP_LESS : isSign('>') ? OP_MORE : isSign('=') ? OP_SAME : NONE;
+                if (fault != NONE || compares == NONE) {
                     refuseToken();
                     return;
                 }
                 nextToken();
+                readSum(depth);
+                emit(compares, 0);
+            } else if (depth < BRACKETS) {
+                nextToken();
                 readTest(depth + 1);
                 closeBracket(')');
             } else {
-                int testWord = wordAmong(TEST_WORDS);
-                if (testWord != NONE) {
-                    readLeaf(OP_WORD, FIRST_TEST_WORD + testWord);
-                } else {
-                    readComparison(depth);
-                }
+                refuseToken();
             }
             if (turned) {
                 emit(OP_NOT, 0);
-            }
-        }
-
-        private void readComparison(int depth) {
-            readSum(depth);
-            int compares = isSign('<') ? OP_LESS : isSign('>') ? OP_MORE : isSign('=') ? OP_SAME : NONE;
-            if (compares == NONE) {
-                refuseToken();
-            }
-            if (fault == NONE) {
-                nextToken();
-                readSum(depth);
-                emit(compares, 0);
             }
         }
 
@@ -1384,21 +1363,15 @@ public final class HalfDays {
         }
 
         private void readPart(int depth) {
-            if (isSign('[')) {
-                if (depth >= BRACKETS) {
-                    refuseToken();
-                    return;
-                }
-                nextToken();
-                readSum(depth + 1);
-                closeBracket(']');
-                return;
-            }
             int sumWord = wordAmong(SUM_WORDS);
             if (sumWord != NONE) {
                 readLeaf(OP_WORD, sumWord);
             } else if (tokenKind == TOKEN_NUMBER && number <= GREATEST_NUMBER) {
                 readLeaf(OP_NUMBER, number);
+            } else if (isSign('[') && depth < BRACKETS) {
+                nextToken();
+                readSum(depth + 1);
+                closeBracket(']');
             } else {
                 refuseToken();
             }
@@ -1706,9 +1679,9 @@ public final class HalfDays {
                 case 3: return day;
                 case 4: return day / 7;
                 case 5: return askedSchool;
-                case 6: return sessionsAsked ? awayWithin(day - LOOKED_BACK, day - 1) : 0;
+                case 6: return sessionsAsked ? awayAhead[day] - awayAhead[Math.max(0, day - LOOKED_BACK)] : 0;
                 case 7: return sessionsAsked ? possibleAhead[day] - possibleAhead[Math.max(0, day - LOOKED_BACK)] : 0;
-                case 8: return people.carer[askedChild] ? 1 : 0;
+                case 8: return people.carer[askedChild];
                 case 9: return people.isWithin(askedChild, 0, day) ? 1 : 0;
                 case 10: return people.hasFailed(people.route[askedChild], askedHalf) ? 1 : 0;
                 default: return people.isWithin(askedChild, 1, day) ? 1 : 0;
@@ -1864,11 +1837,15 @@ public final class HalfDays {
         }
 
         void countWeek(int week, int known) {
-            int lastHalf = Math.min(HALVES, 14 * week + 14) - 1;
-            for (int s = 0; s < SCHOOLS; s++) {
-                countSessions(s, NONE, 14 * week, lastHalf, known);
-                weekPossible[s] = possible;
-                weekAway[s] = away;
+            Marks marks = county.marks;
+            Arrays.fill(weekPossible, 0);
+            Arrays.fill(weekAway, 0);
+            for (int m = 0; m < marks.marks; m++) {
+                if (marks.half[m] / 14 == week && marks.countsAsKnown(m, known)) {
+                    int kind = kindOf(m, known);
+                    weekAway[marks.school[m]] += kind == AWAY ? 1 : 0;
+                    weekPossible[marks.school[m]] += kind == WITHOUT ? 0 : 1;
+                }
             }
         }
 
