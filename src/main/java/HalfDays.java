@@ -1894,6 +1894,8 @@ public final class HalfDays {
         int roundBits;
         int roundWorth;
         int roundMinutes;
+        private final int[] way = new int[VISITS * VISITS];
+        private final int[] officeWay = new int[VISITS];
         /** Used for rounds (by visits and the last of them) and for draws (by who is drawn) alike. */
         private final int[] bySet = new int[(1 << VISITS) * VISITS];
 
@@ -2005,13 +2007,14 @@ public final class HalfDays {
         }
 
         void bestRound(int x, int y, int n) {
+            noteWays(x, y);
             roundBits = 0;
             roundWorth = 0;
             roundMinutes = 0;
             for (int set = 1; set < 1 << lists.visits; set++) {
-                int minutes = fewestMinutes(set, x, y, n);
-                int worth = worthOf(set);
-                if (minutes <= n && (worth > roundWorth || worth == roundWorth && minutes < roundMinutes)) {
+                int minutes = fewestMinutes(set);
+                int worth = minutes <= n ? worthOf(set) : NONE;
+                if (worth > roundWorth || worth == roundWorth && minutes < roundMinutes) {
                     roundBits = set;
                     roundWorth = worth;
                     roundMinutes = minutes;
@@ -2019,25 +2022,36 @@ public final class HalfDays {
             }
         }
 
+        private void noteWays(int x, int y) {
+            for (int v = 0; v < lists.visits; v++) {
+                officeWay[v] = wayFrom(v, x, y);
+                int child = lists.visitChild[v];
+                for (int w = 0; w < lists.visits; w++) {
+                    way[v * VISITS + w] = wayFrom(w, people.x[child], people.y[child]);
+                }
+            }
+        }
+
         /** Also notes the fewest by each last visit, without the way back: greater sets are reckoned from it. */
-        private int fewestMinutes(int set, int x, int y, int n) {
+        private int fewestMinutes(int set) {
             int fewest = TOO_LONG;
             for (int last = 0; last < lists.visits; last++) {
-                if ((set >> last & 1) == 0) {
+                int rest = set ^ 1 << last;
+                if (rest > set) {
                     continue;
                 }
-                int rest = set ^ 1 << last;
-                int before = rest == 0 ? wayFrom(last, x, y) : TOO_LONG;
-                for (int v = 0; v < lists.visits; v++) {
-                    if ((rest >> v & 1) == 1 && bySet[rest * VISITS + v] <= n) {
-                        int child = lists.visitChild[v];
-                        before = Math.min(before,
-                                bySet[rest * VISITS + v] + wayFrom(last, people.x[child], people.y[child]));
+                int before = rest == 0 ? officeWay[last] : TOO_LONG;
+                int bits = rest;
+                for (int v = 0; v < VISITS && bits != 0; v++) {
+                    if ((bits & 1) == 1) {
+                        int minutes = bySet[rest * VISITS + v] + way[v * VISITS + last];
+                        before = minutes < before ? minutes : before;
                     }
+                    bits >>= 1;
                 }
                 int minutes = before + lists.visitMinutes[last];
                 bySet[set * VISITS + last] = minutes;
-                fewest = Math.min(fewest, minutes + wayFrom(last, x, y));
+                fewest = Math.min(fewest, minutes + officeWay[last]);
             }
             return fewest;
         }
@@ -2065,9 +2079,11 @@ public final class HalfDays {
                     bySet[1 << i | set] = bySet[set] + lists.drawnDid[i];
                 }
             }
+            int many = Integer.bitCount(got);
+            int did = bySet[got];
             int ways = 0;
             for (int set = 0; set < 1 << lists.drawn; set++) {
-                if (Integer.bitCount(set) == Integer.bitCount(got) && (!asWellAlone || bySet[set] >= bySet[got])) {
+                if ((!asWellAlone || bySet[set] >= did) && Integer.bitCount(set) == many) {
                     ways++;
                 }
             }

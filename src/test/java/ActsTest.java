@@ -124,6 +124,12 @@ public final class ActsTest {
         fault(s, "fine 0 [[[[[[[[1]]]]]]]] quick 1 if [[[[[[[[1]]]]]]]]=1", -1);
         fault(s, "off if " + "not ".repeat(97) + "bus", -1);
         fault(s, "off if " + "not(".repeat(8) + "bus" + ")".repeat(8) + " and " + "not(".repeat(8) + "bus" + ")".repeat(8), -1);
+        s.run("# promise 16: long texts, one behind the other\nnew\nchild(9, false, -1, 0, 0) = 0");
+        for (int i = 0; i < 12; i++) {
+            s.put("off if 1" + "+1".repeat(49 - 1) + "=" + (i == 11 ? 49 : 48) + " ".repeat(200));
+            s.due("act(0)", i);
+            s.due("off(0, 0, 0)", i == 11 ? 1 : 0);
+        }
         s.run("# promise 17: a tape of 400 bytes");
         fault(s, "off if carer" + " ".repeat(388), -1);
         fault(s, "off if carer" + " ".repeat(387) + "x", 399);
@@ -183,7 +189,7 @@ public final class ActsTest {
         String[] not = {"1/0=1", "not 1/0=1", "10000*10000*10+1>0", "10000*10000*11>0", "0-10000*10000*10-1<0", "1/0=1 or carer",
             "carer and 1/0=1", "1/0=1 and home", "home", "1=2", "2<1", "1>2", "carer and home", "home or home", "not carer",
             "not(carer or 1/0=1)", "10000*10000*11-10000*10000*11=0", "1/[born-10]=1", "home and carer or home", "carer and not carer",
-            "not carer or home", "1-1/0*0=1"};
+            "not carer or home", "1-1/0*0=1", "not carer and carer", "not carer and not carer"};
         for (String test : not) {
             holds(s, test, 0);
         }

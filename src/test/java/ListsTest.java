@@ -40,6 +40,12 @@ public final class ListsTest {
             # promise 27: one that had gone off the other roll by then is lost
             comes(4, 1, 0) = 7 | goes(4, 1, 3, -1) = 0 | comes(4, 0, 0) = 8 | goes(4, 0, 3, 1) = 0
             rolls(2, 2, -1) = 0 | rolls(3, 2, -1) = 1 | rolls(3, 2, 0) = 4
+            # promise 27: lost by the first roll that was told
+            new
+            child(9, false, 0, 0, 0) = 0 | school() = 0 | school() = 1 | comes(0, 0, 0) = 1 | goes(0, 0, 3, 1) = 0
+            rolls(2, 2, -1) = 0 | rolls(3, 2, -1) = 1 | rolls(3, 2, 0) = 0
+            # promise 27: gone off to the school that it left
+            comes(0, 1, 9) = 2 | rolls(9, 2, -1) = 0 | goes(0, 1, 12, 1) = 0 | rolls(12, 2, -1) = 1 | comes(0, 1, 14) = 3 | rolls(14, 2, -1) = 0
             rolls(-1, 0, -1) = -1 | rolls(400, 0, -1) = -1 | rolls(0, 3, -1) = -1 | rolls(0, -1, -1) = -1 | rolls(0, 0, -2) = -1
             """);
     }
@@ -55,6 +61,7 @@ public final class ListsTest {
             seen(0, 0, 0) = 0 | seen(0, 399, 3) = 0 | seen(0, 399, 4) = 3 | seen(0, 1, 4) = 3 | seen(0, 0, 4) = 0
             mark(0, 0, 2, 0, 0, 0) = 5 | seen(0, 399, 4) = 3 | seen(0, 399, 3) = 2
             appeal(3, 0, 9) = 0 | seen(0, 399, 9) = 5 | seen(0, 399, 8) = 3 | seen(0, 1, 9) = 3 | seen(0, 2, 9) = 5
+            seen(0, 399, 400) = -1 | seen(0, 399, -1) = -1 | seen(0, 400, 9) = -1 | seen(0, 2147483647, 9) = -1
             mark(0, 0, 0, 3, 0, 0) = 6 | seen(0, 0, 9) = -1
             seen(1, 399, 399) = -1 | seen(3, 0, 0) = -1 | seen(-1, 0, 0) = -1 | seen(0, 400, 0) = -1 | seen(0, -1, 0) = -1 | seen(0, 0, 400) = -1 | seen(0, 0, -1) = -1
             """);
@@ -158,6 +165,11 @@ public final class ListsTest {
             mark(0, 0, 15, 3, 0, 0) = 3 | mark(1, 1, 15, 0, 0, 0) = 4 | dips(1, 0, 1, 0) = 1 | dips(1, 0, 2, 0) = 0
             mark(0, 0, 23, 3, 0, 3) = 5 | mark(1, 1, 23, 0, 0, 0) = 6 | mark(0, 0, 28, 3, 0, 0) = 7
             dips(1, 3, 1, 0) = 1 | dips(2, 3, 1, 1) = 1 | dips(2, 3, 1, 0) = 0
+            # promise 37: as much as chance is not beyond it: 1 of 1 away against 0 of 2; then 2 of 2 against 0 of 7 by 2
+            mark(0, 0, 42, 3, 0, 0) = 8 | mark(1, 1, 42, 0, 0, 0) = 9 | mark(1, 1, 43, 0, 0, 0) = 10 | dips(3, 0, 1, 0) = 0
+            mark(1, 1, 44, 0, 0, 0) = 11 | dips(3, 0, 1, 0) = 1
+            mark(0, 0, 43, 3, 0, 0) = 12 | mark(1, 1, 45, 0, 0, 0) = 13 | mark(1, 1, 46, 0, 0, 0) = 14 | mark(1, 1, 47, 0, 0, 0) = 15
+            dips(3, 0, 2, 0) = 0 | mark(1, 1, 48, 0, 0, 0) = 16 | dips(3, 0, 2, 0) = 0 | mark(1, 1, 49, 0, 0, 0) = 17 | dips(3, 0, 2, 0) = 1
             dips(-1, 0, 1, 0) = -1 | dips(58, 0, 1, 0) = -1 | dips(57, 0, 1, 0) = 0 | dips(0, -1, 1, 0) = -1 | dips(0, 400, 1, 0) = -1
             dips(0, 0, 0, 0) = -1 | dips(0, 0, 21, 0) = -1 | dips(0, 0, 20, 0) = 0 | dips(0, 0, 1, 2) = -1 | dips(0, 0, 1, -1) = -1
             """);

@@ -106,7 +106,8 @@ public final class MarksTest {
             text code d here if away>0 or possible>0
             act(0) = 2
             mark(0, 0, 14, 3, 0, 0) = 11
-            tells(0, 0, 14, 0, 3) = 3
+            tells(0, 0, 14, 0, 3) = 3 | tells(0, 0, 14, 0, 5) = -1 | tells(0, 0, 14, 0, -1) = -1
+            off(0, 14, 0) = 0 | due(0, 0, 0, 0) = -1 | tells(0, 0, 14, 0, 3) = 3 | sees(0, 0, 0, 14, 0) = 3
             """);
     }
 

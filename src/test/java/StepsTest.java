@@ -41,6 +41,13 @@ public final class StepsTest {
             rate(0, 0, 0, 2, 1) = 2 | rate(0, 0, 0, 3, 1) = 1 | rate(0, 0, 0, 3, 0) = 2
             appeal(6, 25, 4) = 0
             rate(0, 0, 0, 4, 0) = 1 | rate(0, 0, 0, 4, 1) = 0
+            # promise 19: of three in one half that are known from days out of order
+            mark(0, 0, 6, 3, 0, 0) = 9 | mark(0, 0, 6, 0, 0, 9) = 10 | mark(0, 0, 6, 3, 0, 5) = 11
+            rate(0, 6, 6, 0, 0) = 1 | rate(0, 6, 6, 5, 0) = 1 | rate(0, 6, 6, 5, 1) = 1 | rate(0, 6, 6, 9, 0) = 1 | rate(0, 6, 6, 9, 1) = 1
+            # promises 19, 20: in lowest terms
+            mark(0, 1, 4, 3, 0, 0) = 12 | mark(0, 1, 6, 0, 0, 0) = 13 | mark(0, 1, 7, 3, 0, 0) = 14
+            rate(1, 1, 7, 0, 2) = 2 | rate(1, 1, 7, 0, 3) = 3 | mark(0, 1, 8, 3, 0, 0) = 15 | mark(0, 1, 9, 3, 0, 0) = 16 | mark(0, 1, 14, 1, 0, 0) = 17
+            rate(1, 1, 14, 0, 0) = 6 | rate(1, 1, 14, 0, 1) = 4 | rate(1, 1, 14, 0, 2) = 2 | rate(1, 1, 14, 0, 3) = 3
             """);
     }
 
@@ -69,6 +76,9 @@ public final class StepsTest {
             act(0) = 0
             mark(0, 0, 796, 3, 0, 0) = -3 | mark(0, 0, 795, 3, 0, 0) = -3 | mark(0, 0, 789, 3, 0, 0) = 0 | mark(1, 0, 789, 3, 0, 0) = 1
             due(0, 0, 0, 0) = -1 | mark(0, 0, 788, 3, 0, 0) = 2 | due(0, 0, 0, 0) = 394 | due(0, 0, 394, 0) = 394 | due(0, 0, 395, 0) = -1
+            # promise 21: on the last day of all
+            mark(0, 0, 798, 3, 0, 0) = 3 | mark(1, 0, 798, 3, 0, 0) = 4 | due(0, 0, 395, 0) = -1 | mark(0, 0, 799, 3, 0, 0) = 5 | due(0, 0, 395, 0) = 399
+            due(0, 0, 399, 0) = 399 | take(0, 0, 398) = 0 | take(0, 1, 399) = -3
             """);
     }
 
@@ -82,6 +92,11 @@ public final class StepsTest {
             text off if possible=2 and away=0
             act(0) = 2
             off(0, 85, 0) = 1 | off(0, 86, 0) = 0
+            # promises 21, 24, 26: minutes and school are 0, though the child's last mark has some
+            mark(1, 0, 16, 3, 7, 0) = 3
+            text off if minutes>0 or school>0;step 0 1 in 1 if minutes=0 and school=0;fine 0 5+minutes+school quick 1
+            act(0) = 3
+            off(0, 87, 0) = 0 | due(0, 0, 3, 0) = 8 | take(0, 0, 8) = 0 | fine(0, 0, 8, 0) = 5 | pay(0, 0, 9) = 5
             """);
     }
 
