@@ -27,7 +27,7 @@ public final class ImageTest {
         for (int what = 0; what < 9; what++) {
             check.due("count(" + what + ") of the empty image", x.count(what), 0);
         }
-        tellSecond(x);
+        tellSecond(x, check);
         List<Integer> second = ask(x, group);
         check.due("image(1)", x.image(1), 0);
         check.due("the two differ in group " + group, first.equals(second) ? 1 : 0, 0);
@@ -35,6 +35,22 @@ public final class ImageTest {
         same(check, "first, group " + group, ask(x, group), first);
         check.due("back(1)", x.back(1), 0);
         same(check, "second, group " + group, ask(x, group), second);
+        refuseTwice(check, x);
+    }
+
+    /** On the second county, then on the first one. */
+    private static void refuseTwice(Check check, HalfDays x) {
+        check.due("missing(2, 0)", x.missing(2, 0), -4);
+        check.due("draw(3, 0, 0)", x.draw(3, 0, 0), -4);
+        check.due("missing(0, 0)", x.missing(0, 0), 3);
+        check.due("draw(0, 0, 0)", x.draw(0, 0, 0), 4);
+        check.due("join(0)", x.join(0), 15);
+        check.due("back(0)", x.back(0), 0);
+        check.due("missing(0, 0)", x.missing(0, 0), -4);
+        check.due("draw(0, 0, 0)", x.draw(0, 0, 0), -4);
+        check.due("join(0)", x.join(0), 6);
+        check.due("missing(2, 0)", x.missing(2, 0), 2);
+        check.due("draw(2, 0, 0)", x.draw(2, 0, 0), 3);
     }
 
     private static void same(Check check, String what, List<Integer> got, List<Integer> want) {
@@ -46,7 +62,7 @@ public final class ImageTest {
     private static void tellFirst(HalfDays x) {
         x.child(9, true, 1, 5, 6);
         x.child(8, false, 2, 7, 8);
-        x.child(16, false, -1, 0, 0);
+        x.child(17, false, -1, 0, 0);
         x.school();
         x.school();
         x.shut(0, 8);
@@ -74,12 +90,12 @@ public final class ImageTest {
         x.visit(0, 10, 5);
         x.visit(1, 20, 5);
         x.draw(0, 1, 5);
-        x.draw(1, 0, 3);
+        x.draw(1, 0, 7);
         x.seal(0);
         x.alter(1, 2);
     }
 
-    private static void tellSecond(HalfDays x) {
+    private static void tellSecond(HalfDays x, Check check) {
         x.child(4, false, 3, 50, 60);
         x.child(17, true, -1, 70, 80);
         x.child(5, false, 1, 1, 1);
@@ -92,35 +108,39 @@ public final class ImageTest {
         x.comes(2, 2, 0);
         x.goes(2, 2, 7, 0);
         x.comes(1, 1, 0);
+        x.comes(3, 2, 0);
+        x.goes(3, 2, 8, 1);
         x.comes(0, 1, 0);
         x.comes(1, 0, 0);
         x.failed(3, 6);
         x.failed(1, 7);
         x.has(2, 0, 5, 6);
         x.has(0, 1, 1, 2);
-        Texts.act(x, "code a late;code b away;code d away;step 0 1 in 1;fine 0 30 quick 1;off if home;shut a 2", 1);
+        Texts.act(x, "code a late;code b away;code d away;step 0 1 in 1;fine 0 50 quick 1;off if home;shut a 2", 1);
         Texts.act(x, "strike 0 clause 2", 4);
         Texts.act(x, "off if carer", 6);
         x.mark(1, 1, 2, 1, 0, 1);
         x.mark(1, 0, 2, 3, 4, 0);
         x.mark(0, 1, 2, 0, 0, 0);
-        x.mark(1, 1, 2, 0, 0, 3);
         x.mark(1, 0, 0, 0, 0, 0);
+        x.mark(1, 1, 2, 0, 0, 3);
         x.appeal(1, 0, 6);
-        x.take(0, 0, 2);
-        x.pay(0, 0, 4);
+        check.due("take(0, 0, 2)", x.take(0, 0, 2), 0);
+        check.due("pay(0, 0, 4)", x.pay(0, 0, 4), 50);
         x.record(87654321);
         x.record(11111111);
-        x.missing(2, 87654321);
-        x.missing(1, 11111119);
+        check.due("missing(2, 87654321)", x.missing(2, 87654321), 1);
+        check.due("missing(1, 11111119)", x.missing(1, 11111119), 2);
         x.visit(2, 30, 9);
         x.visit(0, 3, 1);
         x.visit(2, 3, 2);
-        x.draw(3, 0, 5);
-        x.draw(2, 1, -9);
-        x.draw(1, 0, -3);
-        x.seal(1);
+        check.due("draw(3, 0, -5)", x.draw(3, 0, -5), 1);
+        check.due("draw(2, 1, 9)", x.draw(2, 1, 9), 2);
+        check.due("draw(1, 0, -3)", x.draw(1, 0, -3), 3);
+        check.due("seal(1)", x.seal(1), 4);
+        check.due("seal(0)", x.seal(0), 1);
         x.alter(0, 7);
+        x.alter(3, 1);
     }
 
     private static List<Integer> ask(HalfDays x, int group) {
@@ -208,7 +228,7 @@ public final class ImageTest {
         }
         a.add(x.helped(0));
         a.add(x.helped(1));
-        for (int n = 20; n < 400; n += 40) {
+        for (int n = 20; n < 200; n += 8) {
             a.add(x.round(9, 9, n, 0));
             a.add(x.round(9, 9, n, 1));
             a.add(x.round(9, 9, n, 2));
