@@ -89,8 +89,8 @@ public final class ImageTest {
         x.missing(0, 12345600);
         x.visit(0, 10, 5);
         x.visit(1, 20, 5);
-        x.draw(0, 1, 5);
-        x.draw(1, 0, 7);
+        x.draw(0, 1, 7);
+        x.draw(1, 0, 5);
         x.seal(0);
         x.alter(1, 2);
     }
