@@ -59,22 +59,14 @@ public final class ActsTest {
             """);
     }
 
-    private static void fault(Script s, String text, int place) {
-        s.put(text);
-        s.due("act(0)", place < 0 ? s.object().count(4) : -6);
-        s.due("fault()", place);
-        s.due("count(9)", 0);
-    }
-
     private static void faults(Script s) {
-        s.run("# promises 16, 17: what can be read, and where it can't go on\nnew");
+        s.run("# promises 16, 17: what can be read, and where it can't go on");
         String[] fine = {"off", " off ", "off if carer", "off if not not bus", "code z none", "strike19clause11",
             "step3[1+2]*3in400", "fine 0 10000 quick 1", "off if(1<2)and not(part or home)", "shut b 3 if 0000000000000001=1",
             "off if born+minutes-half*day/week=school and away<possible", "off;off;off;off;off;off;off;off;off;off;off;off"};
         for (String text : fine) {
-            fault(s, text, -1);
+            s.reads(text, -1);
         }
-        s.run("new");
         Object[][] wrong = {
             {"off off", 4}, {"Off", 0}, {"offs", 0}, {";off", 0}, {"off;", 4}, {"off; ", 5}, {"off;;off", 4}, {"off if", 6},
             {"code", 4}, {"code aa here", 5}, {"code 1 here", 5}, {"code A here", 5}, {"code a", 6}, {"code a hre", 7},
@@ -94,36 +86,35 @@ public final class ActsTest {
             {"off if 1 < 10001", 11}, {"off if 1 + 1 and", 13}, {"off if here", 7}, {"off if possibles = 1", 7},
             {"off if Away = 1", 7}, {"off if born = 1.", 15}, {"off\tif carer", 3}, {"off if carer;code", 17}};
         for (Object[] row : wrong) {
-            fault(s, (String) row[0], (Integer) row[1]);
+            s.reads((String) row[0], (Integer) row[1]);
         }
-        s.due("count(4)", 0);
     }
 
     private static void limits(Script s) {
-        s.run("# promise 17: 12 clauses, 50 leaves, 8 brackets\nnew");
-        fault(s, "off;off;off;off;off;off;off;off;off;off;off;off", -1);
-        fault(s, "off;off;off;off;off;off;off;off;off;off;off;off;", 48);
-        fault(s, "off;off;off;off;off;off;off;off;off;off;off;off;off", 48);
-        fault(s, "off;off;off;off;off;off;off;off;off;off;off;off; x", 49);
+        s.run("# promise 17: 12 clauses, 50 leaves, 8 brackets");
+        s.reads("off;off;off;off;off;off;off;off;off;off;off;off", -1);
+        s.reads("off;off;off;off;off;off;off;off;off;off;off;off;", 48);
+        s.reads("off;off;off;off;off;off;off;off;off;off;off;off;off", 48);
+        s.reads("off;off;off;off;off;off;off;off;off;off;off;off; x", 49);
         String fifty = "fine 0 1" + "+1".repeat(49);
-        fault(s, fifty + " quick 9", -1);
-        fault(s, fifty + "+1 quick 9", 7 + 100);
-        fault(s, fifty + "+[1] quick 9", 7 + 101);
-        fault(s, fifty + "+x quick 9", 7 + 100);
-        fault(s, fifty + " quick 9 if carer", fifty.length() + 12);
-        fault(s, fifty + " quick 9;strike 0 clause 0;step 0 1 in 3", fifty.length() + 9 + 18 + 7);
-        fault(s, fifty + " quick 9;strike 0 clause 0;shut a 3;code b here", -1);
-        fault(s, "off if carer" + " or bus".repeat(49), -1);
-        fault(s, "off if carer" + " or bus".repeat(50), 12 + 49 * 7 + 4);
-        fault(s, "off if ((((((((carer))))))))", -1);
-        fault(s, "off if (((((((((carer)))))))))", 15);
-        fault(s, "off if (((([[[[1]]]]=1))))", -1);
-        fault(s, "off if (((([[[[[1]]]]]=1))))", 15);
-        fault(s, "off if (carer) and (((((((([1]=1))))))))", 27);
-        fault(s, "off if (carer) and ((((((([1]=1)))))))", -1);
-        fault(s, "fine 0 [[[[[[[[1]]]]]]]] quick 1 if [[[[[[[[1]]]]]]]]=1", -1);
-        fault(s, "off if " + "not ".repeat(97) + "bus", -1);
-        fault(s, "off if " + "not(".repeat(8) + "bus" + ")".repeat(8) + " and " + "not(".repeat(8) + "bus" + ")".repeat(8), -1);
+        s.reads(fifty + " quick 9", -1);
+        s.reads(fifty + "+1 quick 9", 7 + 100);
+        s.reads(fifty + "+[1] quick 9", 7 + 101);
+        s.reads(fifty + "+x quick 9", 7 + 100);
+        s.reads(fifty + " quick 9 if carer", fifty.length() + 12);
+        s.reads(fifty + " quick 9;strike 0 clause 0;step 0 1 in 3", fifty.length() + 9 + 18 + 7);
+        s.reads(fifty + " quick 9;strike 0 clause 0;shut a 3;code b here", -1);
+        s.reads("off if carer" + " or bus".repeat(49), -1);
+        s.reads("off if carer" + " or bus".repeat(50), 12 + 49 * 7 + 4);
+        s.reads("off if ((((((((carer))))))))", -1);
+        s.reads("off if (((((((((carer)))))))))", 15);
+        s.reads("off if (((([[[[1]]]]=1))))", -1);
+        s.reads("off if (((([[[[[1]]]]]=1))))", 15);
+        s.reads("off if (carer) and (((((((([1]=1))))))))", 27);
+        s.reads("off if (carer) and ((((((([1]=1)))))))", -1);
+        s.reads("fine 0 [[[[[[[[1]]]]]]]] quick 1 if [[[[[[[[1]]]]]]]]=1", -1);
+        s.reads("off if " + "not ".repeat(97) + "bus", -1);
+        s.reads("off if " + "not(".repeat(8) + "bus" + ")".repeat(8) + " and " + "not(".repeat(8) + "bus" + ")".repeat(8), -1);
         s.run("# promise 16: long texts, one behind the other\nnew\nchild(9, false, -1, 0, 0) = 0");
         for (int i = 0; i < 12; i++) {
             s.put("off if 1" + "+1".repeat(49 - 1) + "=" + (i == 11 ? 49 : 48) + " ".repeat(200));
@@ -131,10 +122,10 @@ public final class ActsTest {
             s.due("off(0, 0, 0)", i == 11 ? 1 : 0);
         }
         s.run("# promise 17: a tape of 400 bytes");
-        fault(s, "off if carer" + " ".repeat(388), -1);
-        fault(s, "off if carer" + " ".repeat(387) + "x", 399);
-        fault(s, "1".repeat(400), 0);
-        fault(s, "code " + "a".repeat(395), 5);
+        s.reads("off if carer" + " ".repeat(388), -1);
+        s.reads("off if carer" + " ".repeat(387) + "x", 399);
+        s.reads("1".repeat(400), 0);
+        s.reads("code " + "a".repeat(395), 5);
     }
 
     private static void force(Script s) {
