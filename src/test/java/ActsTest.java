@@ -149,10 +149,27 @@ public final class ActsTest {
             text strike 2 clause 0
             act(7) = 3
             force(2, 0, 9) = 0 | force(2, 0, 8) = 0 | force(1, 0, 9) = 1 | force(0, 1, 9) = 0
+            # promise 18: a strike of any clause can be struck, the last one of twelve too
+            new
+            text off;off
+            act(0) = 0
+            text off;strike 0 clause 0;off;off;off;off;off;off;off;off;off;strike 0 clause 1
+            act(0) = 1 | force(0, 0, 0) = 0 | force(0, 1, 0) = 0
+            text strike 1 clause 1
+            act(3) = 2 | force(0, 0, 2) = 0 | force(0, 0, 3) = 1 | force(0, 1, 3) = 0 | force(1, 1, 2) = 1 | force(1, 1, 3) = 0 | force(1, 11, 3) = 1
+            text strike 1 clause 11
+            act(5) = 3 | force(0, 1, 4) = 0 | force(0, 1, 5) = 1 | force(1, 11, 5) = 0
+            text strike 3 clause 0;strike 2 clause 1;strike 0 clause 2;strike 0 clause 11
+            act(7) = 4 | force(0, 1, 7) = 0 | force(1, 11, 7) = 1 | force(0, 0, 7) = 1
+            new
+            text code a here;off
+            act(2) = 0
+            text strike 0 clause 1;off
+            act(5) = 1
             # promise 18: a text told later that is in force from an earlier day strikes too
             text strike 0 clause 0
-            act(0) = 4
-            force(0, 0, 2) = 0 | force(0, 0, 1) = 0
+            act(0) = 2
+            force(0, 0, 2) = 0 | force(0, 0, 1) = 0 | force(2, 0, 0) = 1
             status() = 0
             """);
     }

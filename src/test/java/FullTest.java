@@ -142,6 +142,7 @@ public final class FullTest {
             mark(0, 0, 1, 1, 0, 0) = -5 | mark(1, 0, 799, 0, 0, 0) = -5 | mark(0, 0, 0, 0, 0, 399) = -5 | count(3) = 400 | tells(1, 0, 799, 399, 0) = -1
             tells(0, 0, 0, 0, 0) = 399 | tells(0, 0, 0, 0, 1) = 1 | tells(0, 0, 0, 0, 2) = 300 | tells(0, 0, 0, 0, 3) = 3 | tells(0, 0, 799, 0, 0) = 0
             rate(0, 0, 799, 0, 0) = 400 | rate(0, 0, 799, 0, 1) = 134 | rate(0, 0, 799, 0, 2) = 67 | rate(0, 0, 799, 0, 3) = 200 | dip(0, 0, 799, 0, 2) = 67
+            cannot(0, 799, 0, -1) = 0 | cannot(0, 799, 399, 0) = -1 | dips(57, 0, 1, 1) = 1 | dips(0, 0, 20, 1) = 1
             due(0, 0, 0, 0) = 399 | take(0, 0, 399) = 0 | stands(0, 0, 399) = 1 | seal(0) = 1 | found(0) = -1 | alter(399, 7) = 7806 | found(0) = 399 | tells(0, 0, 0, 0, 1) = 6
             alter(399, 7) = 7801 | found(0) = -1 | seen(0, 0, 0) = -1 | appeal(399, 0, 0) = 0 | seen(0, 0, 0) = 0 | appeal(399, 0, 0) = -4 | stands(0, 0, 399) = 0
             image(0) = 0 | back(0) = 0 | count(3) = 400 | mark(0, 0, 1, 1, 0, 0) = -5 | tells(0, 0, 0, 0, 1) = 0 | rate(0, 0, 799, 0, 1) = 133
@@ -161,7 +162,8 @@ public final class FullTest {
         s.run("""
             found(399) = -2 | seal(399) = 400 | found(399) = -1 | tells(0, 0, 798, 399, 0) = 398 | tells(0, 0, 799, 399, 0) = 399
             alter(399, 7) = 7830 | found(399) = 399 | alter(399, 7) = 7825 | found(399) = -1 | alter(0, 7) = 7830 | found(399) = 0 | alter(399, 1) = 7824 | found(399) = -2
-            alter(0, 7) = 7825 | found(399) = 399 | alter(400, 1) = -2 | seal(399) = 400 | found(399) = -1 | mark(0, 0, 799, 0, 0, 0) = -5 | found(399) = -1
+            alter(0, 7) = 7825 | found(399) = 399 | alter(399, 1) = 7825 | alter(398, 1) = 7824 | found(399) = 398 | alter(399, 2) = 7827 | found(399) = -2 | alter(398, 1) = 7825 | alter(399, 3) = 7824
+            found(399) = 399 | alter(400, 1) = -2 | seal(399) = 400 | found(399) = -1 | mark(0, 0, 799, 0, 0, 0) = -5 | found(399) = -1
             beside(0, 399) = -1 | rate(0, 0, 799, 399, 0) = 0
             text code z away;code y here
             beside(0, 399) = 2 | image(1) = 0 | alter(200, 4) = 7829 | found(399) = 200 | back(1) = 0 | found(399) = -1 | cannot(0, 799, 399, -1) = 0

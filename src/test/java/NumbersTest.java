@@ -99,6 +99,10 @@ public final class NumbersTest {
             new
             child(9, false, -1, 0, 0) = 0 | child(9, false, -1, 0, 0) = 1 | child(9, false, -1, 0, 0) = 2
             draw(0, 1, -100) = 1 | helped(0) = 1 | helped(1) = 1 | draw(1, 1, 100) = 2 | helped(0) = 1 | helped(1) = 1 | draw(2, 0, 100) = 3 | helped(0) = 3 | helped(1) = 3
+            # promise 39: two of four, by the sum of both
+            new
+            child(9, false, -1, 0, 0) = 0 | child(9, false, -1, 0, 0) = 1 | child(9, false, -1, 0, 0) = 2 | child(9, false, -1, 0, 0) = 3
+            draw(0, 0, 10) = 1 | draw(1, 1, 15) = 2 | draw(2, 1, 4) = 3 | helped(0) = 2 | helped(1) = 3 | draw(3, 0, 12) = 4 | helped(0) = 4 | helped(1) = 6
             new
             child(9, false, -1, 0, 0) = 0 | child(9, false, -1, 0, 0) = 1 | draw(0, 0, 100) = 1 | draw(1, 0, -100) = 2 | helped(0) = 1 | helped(1) = 1
             """);

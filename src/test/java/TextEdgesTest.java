@@ -238,10 +238,10 @@ public final class TextEdgesTest {
         }
         s.run("# terms II: \"or\", \"and\" ask what stands behind only if it can still matter");
         for (String test : new String[] {"carer or 1/0=0", "not(bus and 1/0=0)", "carer or bus and 1/0=0", "carer or 1/0=0 and bus", "bus and 1/0=0 or carer", "carer and carer or 1/0=0", "(carer or 1/0=0)and carer",
-            "not(bus or bus and 1/0=0)", "carer or 1/0=0 or 1/0=0", "not(bus and 1/0=0 and 1/0=0)"}) {
+            "not(bus or bus and 1/0=0)", "carer or 1/0=0 or 1/0=0", "bus and not part or carer", "carer or not bus or home", "not(bus and not part)", "bus and not part and home or carer", "carer or not bus and 1/0=0", "not(bus and 1/0=0 and 1/0=0)"}) {
             holds(s, test, 1);
         }
-        for (String test : new String[] {"bus or 1/0=0", "carer and 1/0=0", "carer and 1/0=0 or carer", "(bus or 1/0=0)or carer", "bus or 1/0=0 or carer", "bus and 1/0=0", "bus and carer or 1/0=0", "bus and 1/0=0 and carer"}) {
+        for (String test : new String[] {"bus or 1/0=0", "carer and 1/0=0", "carer and 1/0=0 or carer", "(bus or 1/0=0)or carer", "bus or 1/0=0 or carer", "bus and 1/0=0", "bus and carer or 1/0=0", "bus and 1/0=0 and carer", "not(carer or not bus)", "bus and not part and carer", "(carer or not bus)and home", "not(carer or 1/0=0)"}) {
             holds(s, test, 0);
         }
         s.run("""
