@@ -221,8 +221,8 @@ public final class DocumentTest {
             tells(0, 0, 0, 4, 0) = -1 | tells(0, 0, 0, 5, 0) = 0 | tells(0, 0, 0, 6, 2) = 1 | tells(0, 0, 0, 7, 0) = 2 | tells(0, 0, 0, 9, 0) = 2
             rate(0, 0, 1, 6, 1) = 2 | rate(0, 0, 1, 9, 1) = 1 | seal(0) = 5
             # APPEALS: of a MARK another LETTER that was granted, known from a DAY on (once): as known from then on it counts as told with that LETTER.
-            appeal(2, 14, 8) = 0 | appeal(2, 0, 9) = -4
-            tells(0, 0, 0, 7, 1) = 11 | tells(0, 0, 0, 8, 1) = 14 | tells(0, 0, 0, 8, 3) = 3 | tells(0, 0, 0, 8, 2) = 3 | rate(0, 0, 1, 8, 1) = 2
+            appeal(3, 25, 3) = 0 | appeal(2, 14, 8) = 0 | appeal(2, 0, 9) = -4
+            tells(0, 0, 0, 7, 1) = 11 | tells(0, 0, 0, 8, 1) = 14 | tells(0, 0, 0, 8, 3) = 3 | tells(0, 0, 0, 8, 2) = 3 | rate(0, 0, 1, 8, 1) = 1 | tells(1, 0, 0, 3, 1) = 25
             appeal(0, 12, 0) = 0 | tells(0, 0, 0, 4, 1) = -1 | tells(0, 0, 0, 5, 1) = 12 | tells(0, 0, 0, 5, 3) = 2 | tells(0, 0, 0, 7, 0) = 2
             """);
     }
@@ -244,14 +244,14 @@ public final class DocumentTest {
         }
         run("""
             text off
-            act(0) = -5 | count(4) = 20
+            act(0) = -5 | count(4) = 20 | force(19, 0, 4) = 1 | force(20, 0, 4) = -1
             """);
         script.put(" ".repeat(400)).due("feed(0, 0, 0, 0, 0)", -1).due("count(9)", 400);
         run("""
             # TOKENS: longest rows of letters a .. z, of digits, single other bytes, any blanks (32) between.
             """);
         script.reads("step0[1+20]*3in400if(day<7)and not carer", -1).reads("  off  ;  off  ", -1).reads("code a here", -1);
-        script.reads("codea here", 0).reads("o ff", 0).reads("step 0 1 0 in 4", 9).reads("off if 1 < 1 0", 13).reads("offif carer", 0);
+        script.reads("codea here", 0).reads("off if xpossible = 0", 7).reads("off if possibles = 0", 7).reads("o ff", 0).reads("step 0 1 0 in 4", 9).reads("off if 1 < 1 0", 13).reads("offif carer", 0);
         script.reads("off\t", 3).reads("Off", 0).reads("off if 1 = = 1", 11).reads("off\u00ff", 3);
         run("""
             # CLAUSE {";" CLAUSE}, 12 at most (FAULT at the 13th's first TOKEN).
@@ -317,6 +317,7 @@ public final class DocumentTest {
         holds("not not carer", true);
         holds("not carer", false);
         holds("not part and part", false);
+        holds("not carer and carer", false);
         holds("not (part and part)", true);
         holds("(carer or part) and part", false);
         holds("home", false);
@@ -370,6 +371,7 @@ public final class DocumentTest {
         script.reads(fifty + ";code a here;shut a 0;strike 0 clause 0", -1);
         script.reads("off if ((((((((carer))))))))", -1).reads("off if (((((((((carer)))))))))", 15);
         script.reads("off if (((([[[[1]]]] = 1))))", -1).reads("off if (((([[[[[1]]]]] = 1))))", 15).reads("off if ((((((((1 = [1]))))))))", 19);
+        script.reads("step 0 [[[[[[[[1]]]]]]]] in 5", -1).reads("step 0 [[[[[[[[[1]]]]]]]]] in 5", 15);
         script.reads("off if (((carer))) and (((((((carer))))))) and [[[[[1]]]]] = [[[[[[1]]]]]]", -1);
         run("""
             # FAULT: the first TOKEN that can't go on there (the end's: the TEXT's length).
@@ -415,11 +417,14 @@ public final class DocumentTest {
             text off if away = 1 and possible = 2;code z here if away = 0 and possible = 0;shut z 1 if away = 0 and possible = 0
             act(3) = 1
             tells(0, 0, 6, 0, 3) = 0 | sees(1, 0, 0, 6, 0) = -3
-            off(0, 3, 0) = 1 | off(0, 3, 8) = 1 | off(0, 3, 9) = 0
+            off(0, 3, 0) = 1 | tells(0, 0, 6, 0, 3) = 0 | sees(1, 0, 0, 6, 0) = -3 | off(0, 3, 8) = 1 | off(0, 3, 9) = 0
             off(0, 4, 0) = 0
             text code z none
             act(0) = 2
             off(0, 4, 0) = 1 | off(0, 84, 0) = 1 | off(0, 85, 0) = 0 | off(0, 84, 9) = 0
+            text off if away = 0 and possible = 0
+            act(84) = 3
+            off(0, 84, 0) = 1 | off(0, 84, 9) = 0 | off(0, 85, 0) = 1 | off(0, 86, 9) = 0 | off(0, 87, 9) = 1
             """);
         broken();
     }
@@ -501,14 +506,21 @@ public final class DocumentTest {
             due(0, 0, 0, 0) = 2 | due(0, 0, 3, 0) = -1 | due(0, 0, 3, 20) = 4 | due(0, 0, 5, 20) = -1 | due(0, 0, 5, 30) = -1
             due(0, 1, 5, 20) = -1 | due(0, 1, 5, 30) = 8 | due(0, 2, 0, 30) = -1 | due(0, 3, 0, 30) = 0
             due(0, 0, 0, 39) = 2 | due(0, 0, 0, 40) = 0 | due(1, 0, 0, 40) = -1
+            mark(0, 1, 798, 14, 0, 0) = 7 | mark(0, 1, 799, 14, 0, 0) = 8 | mark(0, 1, 6, 12, 0, 0) = 9 | mark(0, 1, 7, 12, 0, 0) = 10 | due(1, 0, 0, 0) = 399 | due(1, 0, 399, 0) = 399
             # TAKEN on a DAY (each STEP of a CHILD once; 0 first, the next ones not ahead of the one before): it can't be (-3), unless the one before was TAKEN, and it is DUE by that DAY, reckoned from the DAY behind that on which the one before was TAKEN on (of 0 from DAY 0), as known on that DAY.
             take(0, 1, 20) = -3 | take(0, 0, 1) = -3 | take(0, 0, 3) = 0 | take(0, 0, 3) = -4 | take(0, 0, 1) = -3
             take(0, 1, 2) = -3 | take(0, 1, 3) = -3 | take(0, 1, 8) = -3 | take(0, 1, 19) = -3 | take(0, 1, 20) = 0
-            take(0, 2, 399) = -3 | take(0, 3, 399) = -3 | take(1, 0, 399) = -3
+            take(0, 2, 399) = -3 | take(0, 3, 399) = -3
+            take(1, 0, 398) = -3 | take(1, 0, 399) = 0 | take(1, 1, 399) = -3
             # STANDS as known on a DAY k: it was TAKEN by k, and it was so DUE by what is known on k (and the one before STANDS).
             stands(0, 0, 2) = 0 | stands(0, 0, 3) = 1 | stands(0, 1, 19) = 0 | stands(0, 1, 20) = 1 | stands(0, 2, 399) = 0
             appeal(1, 0, 25) = 0 | stands(0, 0, 24) = 1 | stands(0, 1, 24) = 1 | stands(0, 0, 25) = 0 | stands(0, 1, 25) = 0
             due(0, 1, 4, 25) = 4 | stands(0, 0, 39) = 0 | stands(0, 0, 40) = 1 | stands(0, 1, 40) = 1
+            stands(1, 0, 398) = 0 | stands(1, 0, 399) = 1 | stands(1, 1, 399) = 0 | appeal(8, 0, 399) = 0 | stands(1, 0, 399) = 0 | stands(0, 0, 399) = 1
+            """ + TWO_OF_EACH + LETTERS + """
+            text step 0 1 in 1
+            act(0) = 1
+            mark(0, 0, 0, 14, 0, 0) = 0 | take(0, 0, 0) = 0 | stands(0, 0, 0) = 1 | stands(0, 0, 399) = 1
             """);
     }
 
@@ -520,7 +532,7 @@ public final class DocumentTest {
             act(0) = 1
             mark(0, 0, 0, 14, 0, 0) = 0 | mark(0, 0, 2, 14, 0, 0) = 1 | mark(0, 0, 4, 14, 0, 9) = 2 | mark(0, 0, 6, 14, 0, 0) = 3 | mark(0, 0, 14, 14, 0, 0) = 4
             mark(1, 0, 0, 14, 0, 3) = 5
-            take(0, 0, 2) = 0 | fine(0, 0, 2, 0) = 71 | fine(0, 0, 399, 0) = 71 | fine(0, 0, 1, 0) = -1 | image(0) = 0
+            take(0, 0, 2) = 0 | fine(0, 0, 2, 0) = 71 | fine(0, 0, 399, 0) = 71 | fine(0, 0, 1, 0) = -1 | fine(1, 0, 399, 0) = -1 | image(0) = 0
             pay(0, 0, 1) = -3 | pay(0, 0, 4) = 35 | pay(0, 0, 4) = -4 | pay(0, 0, 1) = -3
             take(0, 1, 4) = 0 | fine(0, 1, 4, 0) = 0 | pay(0, 1, 5) = 0 | pay(0, 1, 5) = -4 | take(0, 2, 7) = 0 | fine(0, 2, 7, 0) = 0 | image(1) = 0
             back(0) = 0 | pay(0, 0, 5) = 71 | back(0) = 0 | pay(0, 0, 2) = 35
@@ -546,7 +558,7 @@ public final class DocumentTest {
             new
             child(4, false, -1, 0, 0) = 0 | child(5, false, -1, 0, 0) = 1 | child(16, false, -1, 0, 0) = 2 | child(17, false, -1, 0, 0) = 3 | child(10, false, -1, 0, 0) = 4
             school() = 0 | school() = 1 | has(2, 1, 3, 4) = 1 | has(1, 0, 3, 4) = 1
-            rolls(2, 0, -1) = 3 | rolls(2, 0, 0) = 1 | rolls(2, 0, 1) = 2 | rolls(2, 0, 2) = 4 | rolls(3, 0, -1) = 2 | rolls(4, 0, 1) = 4 | rolls(5, 0, -1) = 3
+            rolls(2, 0, -1) = 3 | rolls(2, 0, 0) = 1 | rolls(2, 0, 1) = 2 | rolls(2, 0, 2) = 4 | rolls(3, 0, -1) = 2 | rolls(3, 0, 0) = 1 | rolls(4, 0, 1) = 4 | rolls(5, 0, -1) = 3
             comes(4, 0, 6) = 1 | rolls(5, 0, -1) = 3 | rolls(6, 0, -1) = 2 | comes(4, 1, 8) = 2 | rolls(7, 1, -1) = 0 | rolls(8, 1, -1) = 1 | rolls(8, 1, 0) = 4
             comes(3, 0, 8) = 3 | comes(3, 1, 9) = 4 | rolls(9, 1, -1) = 2 | rolls(9, 1, 0) = 3 | goes(3, 0, 9, -1) = 0 | rolls(9, 1, -1) = 1
             # LAST SEEN as known: the latest HALF not behind that DAY in which it has a MARK that counts as here or late.
@@ -593,6 +605,14 @@ public final class DocumentTest {
             joined(-1) = 2 | missing(2, 11111111) = 3 | join(0) = 16 | joined(-1) = 6 | record(11111111) = 3 | join(0) = 24 | joined(-1) = 6
             """ + two + """
             join(0) = 0 | joined(-1) = 1 | missing(0, 11111111) = 1 | record(22222222) = 1 | join(0) = 0 | joined(0) = 0 | joined(-1) = 1
+            new
+            child(9, false, -1, 0, 0) = 0 | child(9, false, -1, 0, 0) = 1 | child(9, false, -1, 0, 0) = 2 | child(9, false, -1, 0, 0) = 3 | child(9, false, -1, 0, 0) = 4 | child(9, false, -1, 0, 0) = 5
+            missing(0, 0) = 1 | missing(1, 11111111) = 2 | missing(2, 22222222) = 3 | missing(3, 33333333) = 4 | missing(4, 44444444) = 5 | missing(5, 55555555) = 6
+            record(55555555) = 1 | record(44444444) = 2 | record(33333333) = 3 | record(22222222) = 4 | record(11111111) = 5
+            join(1) = 40 | joined(0) = -1 | joined(1) = 4 | joined(5) = 0 | joined(-1) = 1 | join(0) = 40 | joined(0) = -1 | joined(-1) = 1
+            record(0) = 6 | join(0) = 48 | joined(0) = 5 | joined(1) = 4 | joined(2) = 3 | joined(3) = 2 | joined(4) = 1 | joined(5) = 0 | joined(-1) = 1 | judge(22875, 8) = 48
+            """ + two + """
+            missing(0, 99999999) = 1 | missing(1, 11111111) = 2 | record(11111111) = 1 | join(5) = 8 | joined(0) = -1 | joined(1) = 0
             # CAN'T BE as known: MARKS that count, here or late, of a CHILD that has another such one of another SCHOOL in that HALF; or whose ROUTE failed in that HALF, and that has MINUTES 0 and here.
             """ + TWO_OF_EACH + LETTERS + """
             mark(0, 0, 0, 0, 9, 0) = 0 | mark(1, 0, 0, 11, 9, 6) = 1 | mark(1, 0, 2, 0, 9, 0) = 2 | mark(0, 0, 2, 14, 9, 0) = 3 | mark(0, 1, 2, 0, 9, 0) = 4
@@ -658,6 +678,11 @@ public final class DocumentTest {
             new
             child(9, false, -1, 0, 0) = 0 | child(9, false, -1, 0, 0) = 1 | child(9, false, -1, 0, 0) = 2 | child(9, false, -1, 0, 0) = 3
             draw(0, 1, 5) = 1 | draw(1, 0, 5) = 2 | draw(2, 1, 1) = 3 | draw(3, 0, 0) = 4 | helped(0) = 3 | helped(1) = 6
+            new
+            child(9, false, -1, 0, 0) = 0 | child(9, false, -1, 0, 0) = 1 | child(9, false, -1, 0, 0) = 2 | child(9, false, -1, 0, 0) = 3
+            draw(0, 1, 4) = 1 | draw(1, 1, -3) = 2 | draw(2, 0, 6) = 3 | draw(3, 0, 1) = 4 | helped(0) = 5 | helped(1) = 6
+            new
+            helped(0) = 1 | helped(1) = 1 | child(9, false, -1, 0, 0) = 0 | draw(0, 0, 7) = 1 | helped(0) = 1 | helped(1) = 1
             """);
     }
 
@@ -685,14 +710,25 @@ public final class DocumentTest {
             # FOUND: NONE, if both sums are as they were; the MARK whose number, put right by what the first is off, sets both right; -2 there is none such, or there are more MARKS than then.
             found(0) = -1 | found(1) = -1 | alter(0, 7) = 24 | found(0) = 0 | found(1) = -1 | alter(0, 7) = 31 | found(0) = -1
             alter(2, 1) = 7 | found(0) = 2 | alter(3, 1) = 6 | found(0) = -2 | alter(2, 1) = 6 | found(0) = 3 | alter(3, 1) = 7 | found(0) = -1
+            alter(0, 2) = 29 | alter(2, 1) = 7 | found(0) = -2 | alter(0, 2) = 31 | alter(3, 2) = 5 | found(0) = -2 | alter(3, 2) = 7 | alter(2, 1) = 6 | found(0) = -1
             mark(0, 0, 1, 0, 9, 0) = 4 | found(0) = -2 | seal(0) = 4 | found(0) = -1
             # IMAGES 0, 1 keep all but the TAPE, FAULT and the latest answers; BACK to one all is as it was then (IMAGES stay).
+            text off;off
+            act(0) = 0
             image(0) = 0 | school() = 2 | image(1) = 0 | child(10, false, -1, 0, 0) = 2 | missing(2, 5) = 1 | record(5) = 1 | join(0) = 8
+            text strike 0 clause 1
+            act(0) = 1 | force(0, 1, 0) = 0
             text code x
             act(0) = -6 | fault() = 6
             text off if
-            back(0) = 0 | count(0) = 2 | count(1) = 2 | count(5) = 0 | count(9) = 6 | fault() = 6 | joined(0) = 0 | joined(-1) = 1
+            back(0) = 0 | force(0, 1, 0) = 1 | count(4) = 1 | count(0) = 2 | count(1) = 2 | count(5) = 0 | count(9) = 6 | fault() = 6 | joined(0) = 0 | joined(-1) = 1
             back(1) = 0 | count(0) = 2 | count(1) = 3 | back(0) = 0 | count(1) = 2 | found(0) = -1 | tells(0, 0, 2, 0, 1) = 25
+            new
+            image(0) = 0
+            text off
+            act(3) = 0 | image(1) = 0 | back(0) = 0 | count(4) = 0 | force(0, 0, 3) = -1
+            text strike 0 clause 0;off
+            act(5) = 0 | force(0, 1, 5) = 1 | back(1) = 0 | force(0, 0, 3) = 1 | force(0, 1, 5) = -1
             # The constants: `NONE = -1`: There is none.
             new
             isOn(0, 0, 0) = -1 | joined(0) = -1 | fault() = -1
@@ -763,22 +799,26 @@ public final class DocumentTest {
             feed(1, 2, 3, 4, 5) = -1 | count(9) = 400
             # `int end(int n)`: The TAPE has its first n bytes alone: n. NONE, if it has not so many, or n is below 0.
             end(401) = -1 | end(-1) = -1 | end(400) = 400 | end(381) = 381 | feed(1, 2, 3, 4, 5) = -1 | end(380) = 380 | feed(1, 2, 3, 4, 5) = 400 | end(0) = 0 | end(1) = -1
+            text offs
+            end(3) = 3 | act(0) = 0 | force(0, 0, 0) = 1
+            text step 0 1 in 4001
+            end(15) = 15 | act(0) = 1
             # `int act(int from)`: The TAPE, which is empty then, becomes an ACT: its number. -1; -5 (both ahead of reading it); -6 (blanks alone: FAULT at the end).
-            feed(1868981792, 538976288, 538976288, 538976288, 538976288) = 20 | act(400) = -1 | status() = -1 | act(-1) = -1 | count(9) = 20 | act(0) = 0 | status() = 0 | count(9) = 0
+            feed(1868981792, 538976288, 538976288, 538976288, 538976288) = 20 | act(400) = -1 | status() = -1 | act(-1) = -1 | count(9) = 20 | act(0) = 2 | status() = 0 | count(9) = 0
             feed(538976288, 538976288, 538976288, 538976288, 538976288) = 20 | act(0) = -6 | status() = -6 | fault() = 20 | count(9) = 0 | act(0) = -6 | fault() = 0
             # `int fault()`: FAULT of the latest act(), beside() that read a TEXT: its place; NONE without.
             text off off
             act(400) = -1 | fault() = 0 | beside(400, 0) = -1 | fault() = 0 | act(0) = -6 | fault() = 4
             text off
-            act(0) = 1 | fault() = -1
+            act(0) = 3 | fault() = -1
             text code a bus
             beside(0, 0) = -1 | fault() = 7
             text off
             beside(0, 0) = 0 | fault() = -1
             # `int force(int text, int clause, int day)`: Whether a CLAUSE is IN FORCE on a DAY: 1, 0; NONE.
             text off;off
-            act(7) = 2
-            force(2, 1, 7) = 1 | force(2, 1, 6) = 0 | force(2, 2, 7) = -1 | force(2, -1, 7) = -1 | force(3, 0, 7) = -1 | force(-1, 0, 7) = -1 | force(2, 0, 400) = -1 | force(2, 0, -1) = -1
+            act(7) = 4
+            force(4, 1, 7) = 1 | force(4, 1, 6) = 0 | force(4, 2, 7) = -1 | force(4, -1, 7) = -1 | force(5, 0, 7) = -1 | force(-1, 0, 7) = -1 | force(4, 0, 400) = -1 | force(4, 0, -1) = -1
             # `int rate(int child, int from, int to, int known, int what)`: SESSIONS of a CHILD in HALVES from .. to as known: POSSIBLE (what 0), AWAY (1); RATE's upper (2), lower number (3). NONE.
             """ + TWO_OF_EACH + LETTERS + """
             mark(0, 0, 2, 14, 0, 0) = 0 | mark(1, 0, 3, 14, 0, 0) = 1 | mark(0, 0, 4, 0, 0, 5) = 2 | mark(0, 0, 6, 12, 0, 0) = 3 | mark(0, 1, 2, 14, 0, 0) = 4
@@ -826,6 +866,7 @@ public final class DocumentTest {
         run("""
             # `int record(int marks)`: A RECORD (eight figures, the first highest; 0 .. 99,999,999): how many there are. -1; -5.
             new
+            joined(-1) = -1 | joined(0) = -1
             child(9, false, -1, 0, 0) = 0 | child(9, false, -1, 4, 0) = 1
             record(99999999) = 1 | record(12345678) = 2 | record(100000000) = -1 | status() = -1 | record(-1) = -1 | count(5) = 2
             # `int missing(int child, int marks)`: A CHILD is MISSING with such MARKS: how many are. -1; -2; -4; -5.
@@ -842,14 +883,16 @@ public final class DocumentTest {
             mark(0, 0, 2, 0, 5, 0) = 0 | mark(1, 0, 2, 11, 5, 3) = 1 | failed(2, 7) = 1 | mark(0, 0, 7, 0, 0, 0) = 2
             cannot(0, 799, 3, -1) = 3 | cannot(0, 799, 3, 2) = 2 | cannot(0, 799, 3, 3) = -1 | cannot(0, 799, 2, -1) = 1 | cannot(2, 2, 3, 1) = 1 | cannot(3, 6, 3, -1) = 0 | cannot(3, 7, 3, 0) = 2
             cannot(0, 799, 3, -2) = -1 | cannot(0, 800, 3, -1) = -1 | cannot(-1, 9, 3, -1) = -1 | cannot(3, 2, 3, -1) = -1 | cannot(0, 799, 400, -1) = -1
+            """ + TWO_OF_EACH + LETTERS + """
+            mark(0, 0, 0, 14, 0, 0) = 0 | mark(1, 0, 0, 0, 0, 0) = 1 | mark(0, 0, 7, 0, 5, 0) = 2 | cannot(0, 799, 0, -1) = 0
             # `int visit(int child, int minutes, int worth)`: A VISIT: how many there are. -1; -2; -5.
             visit(0, 10, 20) = 1 | visit(1, 10, 30) = 2 | visit(1, 201, 30) = -1 | visit(2, 10, 30) = -2 | status() = -2 | count(7) = 2
             # `int round(int x, int y, int n, int what)`: ROUNDS from an office within n minutes (0 .. 2000): VISITS as bits (what 0), WORTH (1), minutes (2). NONE.
             round(0, 0, 34, 0) = 3 | round(0, 0, 34, 1) = 50 | round(0, 0, 34, 2) = 34 | round(0, 0, 33, 0) = 2 | round(0, 0, 33, 2) = 24 | round(0, 0, 0, 0) = 0 | round(3, 4, 10, 0) = 2
             round(0, 0, 2001, 0) = -1 | round(0, 0, -1, 0) = -1 | round(100, 0, 9, 0) = -1 | round(0, 100, 9, 0) = -1 | round(-1, 0, 9, 0) = -1 | round(0, 0, 9, 3) = -1 | round(0, 0, 9, -1) = -1
             # `int dips(int week, int known, int t, int what)`: DIPS in a WEEK (0 .. 57) as known by T: SCHOOLS as bits (what 0), how many were LOOKED at (1). NONE.
-            mark(1, 0, 14, 14, 0, 0) = 3 | mark(1, 0, 15, 14, 0, 0) = 4 | mark(0, 0, 16, 0, 0, 0) = 5 | mark(0, 0, 17, 0, 0, 9) = 6
-            dips(1, 9, 1, 0) = 2 | dips(1, 9, 2, 0) = 0 | dips(1, 0, 1, 1) = 2 | dips(1, 0, 1, 0) = 0 | dips(57, 0, 1, 1) = 0 | dips(58, 0, 1, 1) = -1 | dips(-1, 0, 1, 1) = -1
+            mark(1, 0, 14, 14, 0, 0) = 3 | mark(1, 0, 15, 14, 0, 0) = 4 | mark(0, 0, 16, 0, 0, 0) = 5 | mark(0, 0, 17, 0, 0, 9) = 6 | mark(0, 0, 798, 0, 0, 0) = 7
+            dips(1, 9, 1, 0) = 2 | dips(1, 9, 2, 0) = 0 | dips(1, 0, 1, 1) = 2 | dips(1, 0, 1, 0) = 0 | dips(57, 0, 1, 1) = 1 | dips(56, 0, 1, 1) = 0 | dips(58, 0, 1, 1) = -1 | dips(-1, 0, 1, 1) = -1
             dips(1, 400, 1, 0) = -1 | dips(1, 9, 0, 0) = -1 | dips(1, 9, 21, 0) = -1 | dips(1, 9, 1, 2) = -1 | dips(1, 9, 1, -1) = -1
             # `int draw(int child, int got, int did)`: DRAWN: how many there are. -1; -2; -4; -5.
             draw(0, 1, -100) = 1 | draw(0, 1, 0) = -4 | status() = -4 | draw(2, 1, 0) = -2 | draw(2, 2, 0) = -1 | draw(1, 0, 100) = 2 | count(8) = 2
@@ -857,9 +900,9 @@ public final class DocumentTest {
             helped(0) = 2 | helped(1) = 2 | helped(2) = -1 | helped(-1) = -1
             # `int beside(int from, int known)`: TRIED as known from a DAY on, the TAPE is empty then: how many MARKS. NONE for DAYS that can't be, no room for a TEXT (20), a TEXT that can't be.
             text code a late
-            beside(400, 9) = -1 | beside(0, 400) = -1 | beside(-1, 9) = -1 | count(9) = 11 | beside(0, 9) = 4 | count(9) = 0 | count(4) = 1
+            beside(400, 9) = -1 | beside(0, 400) = -1 | beside(-1, 9) = -1 | count(9) = 11 | beside(0, 9) = 5 | count(9) = 0 | count(4) = 1
             text code a late
-            beside(8, 8) = 1
+            beside(8, 8) = 2
             text code a
             beside(0, 9) = -1 | fault() = 6 | count(9) = 0
             """);
